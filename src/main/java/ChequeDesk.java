@@ -12,6 +12,7 @@ public final class ChequeDesk {
     private static final int MOST_TICKS = 120;
     private static final int LONGEST_TICK = 60;
     private static final int MOST_PLACES = MOST_TICKS / WIDTHS;
+    private static final int ABOVE_ANY_COST = MOST_TICKS * LONGEST_TICK + 1;
 
     private static final int LINE_PLACES = 18;
     private static final int DIGIT = -1;
@@ -401,16 +402,14 @@ public final class ChequeDesk {
         }
 
         private void sumFromTheEnd() {
-            for (int speed = 0; speed < SPEEDS; speed++) {
-                behind[(places - 1) * SPEEDS + speed] = 0;
-            }
-            for (int place = places - 2; place >= 0; place--) {
-                int next = (place + 1) * SPEEDS;
+            for (int place = places - 1; place >= 0; place--) {
+                int row = place * SPEEDS;
+                boolean isLast = place == places - 1;
                 for (int speed = 0; speed < SPEEDS; speed++) {
-                    joined[speed] = here[next + speed] + behind[next + speed];
+                    behind[row + speed] = isLast ? 0 : leastNear(speed);
                 }
                 for (int speed = 0; speed < SPEEDS; speed++) {
-                    behind[place * SPEEDS + speed] = leastNear(speed);
+                    joined[speed] = here[row + speed] + behind[row + speed];
                 }
             }
         }
@@ -478,7 +477,7 @@ public final class ChequeDesk {
 
         /** Any SIGNS are allowed. The least cost of a reading whose SIGNS are not these. */
         int leastCostBeside(int[] signs) {
-            int least = Integer.MAX_VALUE;
+            int least = ABOVE_ANY_COST;
             startWalk();
             for (int place = 0; place < places; place++) {
                 for (int sign = 0; sign < SIGNS; sign++) {
@@ -736,13 +735,15 @@ public final class ChequeDesk {
         }
 
         private static boolean differInOneDigit(int one, int two) {
+            int restOfOne = one;
+            int restOfTwo = two;
             int apart = 0;
             for (int i = 0; i < AMOUNT_DIGITS; i++) {
-                if (one % 10 != two % 10) {
+                if (restOfOne % 10 != restOfTwo % 10) {
                     apart++;
                 }
-                one = one / 10;
-                two = two / 10;
+                restOfOne = restOfOne / 10;
+                restOfTwo = restOfTwo / 10;
             }
             return apart == 1;
         }

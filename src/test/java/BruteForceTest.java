@@ -14,32 +14,20 @@ public final class BruteForceTest {
     public static void main(String[] args) {
         Checks checks = new Checks();
         Random random = new Random(7);
-        for (int i = 0; i < 300; i++) {
-            compare(checks, random, i % 20 == 0 ? 3 : i % 3 == 0 ? 1 : 2);
+        for (int i = 0; i < 600; i++) {
+            compare(checks, random, i % 15 == 0 ? 3 : i % 3 == 0 ? 1 : 2);
         }
         checks.close();
     }
 
     private static void compare(Checks checks, Random random, int places) {
         ChequeDesk desk = new ChequeDesk();
-        alphabet = new int[12];
-        int kinds = 1 + random.nextInt(3);
+        boolean flat = random.nextInt(3) == 0;
+        alphabet = flat ? flatAlphabet(random) : mixedAlphabet(random);
         for (int sign = 0; sign < 12; sign++) {
-            alphabet[sign] = Lines.ALPHABET[sign];
-            if (random.nextInt(3) == 0) {
-                int widths = 0;
-                for (int k = 0; k < 6; k++) {
-                    widths = widths * 10 + 1 + random.nextInt(kinds);
-                }
-                alphabet[sign] = widths;
-            }
             desk.teach(sign, alphabet[sign]);
         }
-        int[] plain = new int[places * 6];
-        int most = random.nextBoolean() ? 60 : 30;
-        for (int k = 0; k < plain.length; k++) {
-            plain[k] = 1 + random.nextInt(most);
-        }
+        int[] plain = flat ? flatTicks(random, places) : randomTicks(random, places);
         Lines.feed(desk, plain);
         int cost = desk.read();
         look(Lines.turned(plain), places);
@@ -57,6 +45,48 @@ public final class BruteForceTest {
             checks.same("place(" + k + ", 0)", bestSigns[k], desk.place(k, 0));
             checks.same("place(" + k + ", 1)", bestSpeeds[k], desk.place(k, 1));
         }
+    }
+
+    private static int[] mixedAlphabet(Random random) {
+        int[] mixed = Lines.ALPHABET.clone();
+        int kinds = 1 + random.nextInt(3);
+        for (int sign = 0; sign < 12; sign++) {
+            if (random.nextInt(3) == 0) {
+                mixed[sign] = 0;
+                for (int k = 0; k < 6; k++) {
+                    mixed[sign] = mixed[sign] * 10 + 1 + random.nextInt(kinds);
+                }
+            }
+        }
+        return mixed;
+    }
+
+    private static int[] randomTicks(Random random, int places) {
+        int[] row = new int[places * 6];
+        int most = random.nextBoolean() ? 60 : 30;
+        for (int k = 0; k < row.length; k++) {
+            row[k] = 1 + random.nextInt(most);
+        }
+        return row;
+    }
+
+    /** Signs that differ in width alone tie often: one at a high speed is another at a low one. */
+    private static int[] flatAlphabet(Random random) {
+        int[] flat = new int[12];
+        for (int sign = 0; sign < 12; sign++) {
+            flat[sign] = 111111 * (1 + random.nextInt(3));
+        }
+        return flat;
+    }
+
+    private static int[] flatTicks(Random random, int places) {
+        int[] row = new int[places * 6];
+        int base = 0;
+        for (int k = 0; k < row.length; k++) {
+            base = k % 6 == 0 ? 4 + random.nextInt(20) : base;
+            row[k] = base + (k % 6 < 3 ? 0 : random.nextInt(2));
+        }
+        return row;
     }
 
     private static void look(int[] row, int places) {

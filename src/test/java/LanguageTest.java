@@ -8,7 +8,7 @@ import java.util.regex.Pattern;
 public final class LanguageTest {
     private static final String[] RULED_OUT = {
         "\\bcatch\\b", "\\btry\\b", "\\bfinally\\b", "\\bsynchronized\\b", "\\bassert\\b", "^package\\b",
-        "\\bimport\\b", "->", "::", "\\bSystem\\.(?!arraycopy)", "\\bRandom\\b", "\\bThread\\b", "Exact\\(",
+        "\\bimport\\b", "->", "::", "\\bSystem\\.(?!arraycopy)", "\\bRandom\\b", "_VALUE\\b", "\\bThread\\b", "Exact\\(",
         "\\bequals\\(", "\\bhashCode\\b", "\\btoString\\b", "\\bvolatile\\b", "\\bprotected\\b", "\\bnew int\\[[^;]*\\]\\[",
         "[^\\x00-\\x7f]"
     };

@@ -13,6 +13,7 @@ public final class PromisesTest {
         tick();
         readRefusals();
         readTies();
+        readTiesAcrossPlaces();
         readSpeeds();
         readTurned();
         readLongest();
@@ -132,6 +133,23 @@ public final class PromisesTest {
         due("4: the first sign", 0, () -> flat.place(0, 0));
         due("4: its speed", 6, () -> flat.place(0, 1));
         due("5: the next is as good", 0, () -> flat.about(2));
+    }
+
+    /** 0 at 8 and 2 at 7 cost as much as 2 at 4 and 1 at 5; but 0 and 1 do not go together. */
+    private static void readTiesAcrossPlaces() {
+        ChequeDesk desk = new ChequeDesk();
+        for (int sign = 0; sign < 12; sign++) {
+            desk.teach(sign, sign == 0 ? 111111 : sign == 1 ? 333333 : sign == 2 ? 222222 : 313131);
+        }
+        for (int n : new int[] {8, 8, 8, 8, 8, 8, 14, 14, 14, 15, 15, 15}) {
+            desk.tick(n);
+        }
+        due("4: two readings of least cost", 3, desk::read);
+        due("5: the gap between them", 0, () -> desk.about(2));
+        due("6: the first sign", 0, () -> desk.place(0, 0));
+        due("6: its speed", 8, () -> desk.place(0, 1));
+        due("6: the second goes with it", 2, () -> desk.place(1, 0));
+        due("6: its speed too", 7, () -> desk.place(1, 1));
     }
 
     private static void readSpeeds() {
@@ -531,6 +549,7 @@ public final class PromisesTest {
 
     private static void slipKinds() {
         slipsOf("nothing is out", 500, 500, new int[][] {});
+        slipsOf("nothing is out, and nothing told", 0, 0, new int[][] {});
         slipsOf("a digit", 1000, 1010, new int[][] {{0, 0, 1000}});
         slipsOf("a digit, below", 1090, 1010, new int[][] {{0, 0, 1090}, {3, -1, 80}});
         slipsOf("two digits", 1000, 1230, new int[][] {});

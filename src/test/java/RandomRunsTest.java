@@ -30,20 +30,57 @@ public final class RandomRunsTest {
     }
 
     private static void oneRun() {
-        if (random.nextInt(12) != 0) {
-            teachAll();
+        int kind = random.nextInt(3);
+        if (kind == 2) {
+            runOfPapers();
+            return;
         }
-        boolean longOnes = random.nextInt(3) != 0;
+        if (random.nextInt(12) != 0) {
+            teachAll(random.nextInt(5) == 0);
+        }
+        if (kind == 0) {
+            runOfShortOnes();
+        } else {
+            runOfLines();
+        }
+    }
+
+    private static void runOfShortOnes() {
         while (calls < 512) {
-            switch (random.nextInt(longOnes ? 3 : 9)) {
-                case 0: feedStripes(longOnes); break;
-                default: ask(1 + random.nextInt(20));
+            if (random.nextInt(9) == 0) {
+                int places = 1 + random.nextInt(random.nextInt(4) == 0 ? 21 : 4);
+                feedStripes(shaken(random.ints(places, 0, 12).toArray(), anyShake()));
+            } else {
+                ask(1 + random.nextInt(20));
             }
         }
     }
 
-    private static void teachAll() {
-        boolean twins = random.nextInt(5) == 0;
+    private static void runOfLines() {
+        while (calls < 512) {
+            feedStripes(shaken(randomLine(), anyShake()));
+            look();
+            ask(random.nextInt(60));
+            if (random.nextBoolean()) {
+                takePaper();
+            }
+        }
+    }
+
+    private static void runOfPapers() {
+        teachAll(false);
+        batch(anyAmount());
+        batch(anyAmount());
+        for (int i = 1 + random.nextInt(3); i > 0; i--) {
+            feedStripes(shaken(lineThatFits(), random.nextInt(2)));
+            takePaper();
+        }
+        while (calls < 512) {
+            askBatches();
+        }
+    }
+
+    private static void teachAll(boolean twins) {
         for (int sign = 0; sign < 12; sign++) {
             teach(sign, Lines.ALPHABET[twins && random.nextInt(3) == 0 ? random.nextInt(12) : sign]);
         }
@@ -57,28 +94,59 @@ public final class RandomRunsTest {
         call("tick(" + n + ")", () -> model.tick(n), () -> desk.tick(n));
     }
 
-    private static void feedStripes(boolean longOnes) {
-        int places = longOnes ? 18 : 1 + random.nextInt(random.nextInt(4) == 0 ? 21 : 4);
-        int[] signs = longOnes ? randomLine() : new int[places];
-        for (int i = 0; i < places && !longOnes; i++) {
-            signs[i] = random.nextInt(12);
-        }
-        int[] ticks = shaken(signs, random.nextInt(4) == 0 ? 5 + random.nextInt(12) : random.nextInt(4));
-        if (random.nextInt(3) == 0) {
-            ticks = Lines.turned(ticks);
-        }
+    private static void feedStripes(int[] row) {
+        clearStripes();
+        int[] ticks = random.nextInt(3) == 0 ? Lines.turned(row) : row;
         int length = random.nextInt(15) == 0 ? random.nextInt(ticks.length) : ticks.length;
         for (int i = 0; i < length; i++) {
             tick(ticks[i]);
         }
         call("read()", model::read, desk::read);
-        look();
+        if (random.nextInt(4) == 0) {
+            look();
+        }
     }
 
-    /** Few banks and accounts, so that papers come twice; some lines have a wrong sign, or two. */
-    private static int[] randomLine() {
+    /** Reads what stray ticks are left, so that they do not spoil all that follows. */
+    private static void clearStripes() {
+        while (model.count(1) % 6 != 0) {
+            tick(1 + random.nextInt(60));
+        }
+        if (model.count(1) > 0) {
+            call("read()", model::read, desk::read);
+        }
+    }
+
+    private static void takePaper() {
+        if (model.count(2) == 0) {
+            batch(anyAmount());
+        }
+        call("twin()", model::twin, desk::twin);
+        paper(model.count(2) == 1 ? 0 : any(0, 1), anyAmount());
+    }
+
+    private static void batch(int sum) {
+        call("batch(" + sum + ")", () -> model.batch(sum), () -> desk.batch(sum));
+    }
+
+    private static void paper(int batch, int amount) {
+        call("paper(" + batch + ", " + amount + ")", () -> model.paper(batch, amount),
+            () -> desk.paper(batch, amount));
+    }
+
+    private static int anyShake() {
+        return random.nextInt(4) == 0 ? 5 + random.nextInt(12) : random.nextInt(4);
+    }
+
+    /** Few banks and accounts, so that papers come twice. */
+    private static int[] lineThatFits() {
         String account = new String[] {"123451", "000000", "999991", "102032"}[random.nextInt(4)];
-        int[] signs = Lines.line("12" + (10 + random.nextInt(2)), account, "004" + random.nextInt(2));
+        return Lines.line("12" + (10 + random.nextInt(2)), account, "004" + random.nextInt(2));
+    }
+
+    /** Some lines have another account, or a wrong sign, or two. */
+    private static int[] randomLine() {
+        int[] signs = lineThatFits();
         if (random.nextInt(4) == 0) {
             for (int i = 6; i < 12; i++) {
                 signs[i] = random.nextInt(10);
@@ -144,7 +212,7 @@ public final class RandomRunsTest {
 
     /** An amount from which one slip leads to what is told, as far as one paper is concerned. */
     private static int amountNearOut(int paper) {
-        int batch = random.nextInt(Math.max(1, model.count(2)));
+        int batch = random.nextInt(Math.max(1, Math.min(2, model.count(2))));
         if (paper < 0 || paper >= model.count(3) || batch >= model.count(2)) {
             return anyAmount();
         }
@@ -205,26 +273,22 @@ public final class RandomRunsTest {
     }
 
     private static void askBatches() {
-        int batch = any(-1, Math.max(1, model.count(2)));
+        int batch = any(0, 4) != 0 ? random.nextInt(2) : any(-1, Math.max(1, model.count(2)));
         int paper = any(-1, Math.max(1, model.count(3)));
         int amount = random.nextInt(3) == 0 ? amountNearOut(paper) : anyAmount();
         int k = any(-1, 3);
         int what = any(-1, 3);
-        switch (random.nextInt(9)) {
+        switch (random.nextInt(12)) {
             case 0:
-                int sum = random.nextInt(6) == 0 ? any(999_999_998, 1_000_000_001) : anyAmount();
-                call("batch(" + sum + ")", () -> model.batch(sum), () -> desk.batch(sum));
+                batch(random.nextInt(6) == 0 ? any(999_999_998, 1_000_000_001) : anyAmount());
                 break;
-            case 1:
-                call("paper(" + batch + ", " + amount + ")", () -> model.paper(batch, amount),
-                    () -> desk.paper(batch, amount));
-                break;
-            case 2: case 3:
+            case 1: paper(batch, amount); break;
+            case 2: case 3: case 4:
                 call("amount(" + paper + ", " + amount + ")", () -> model.amount(paper, amount),
                     () -> desk.amount(paper, amount));
                 break;
-            case 4: call("out(" + batch + ")", () -> model.out(batch), () -> desk.out(batch)); break;
-            case 5: case 6: call("slips(" + batch + ")", () -> model.slips(batch), () -> desk.slips(batch)); break;
+            case 5: call("out(" + batch + ")", () -> model.out(batch), () -> desk.out(batch)); break;
+            case 6: case 7: call("slips(" + batch + ")", () -> model.slips(batch), () -> desk.slips(batch)); break;
             default:
                 call("slip(" + batch + ", " + k + ", " + what + ")", () -> model.slip(batch, k, what),
                     () -> desk.slip(batch, k, what));
