@@ -56,10 +56,6 @@ final class Checks {
         return answer == OUT_OF_BOUNDS ? "throws.IndexOutOfBoundsException" : Long.toString(answer);
     }
 
-    boolean failed() {
-        return wrong != 0;
-    }
-
     void close() {
         System.out.println(made + " answers, " + wrong + " not as due");
         if (wrong != 0) {

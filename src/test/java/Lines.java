@@ -1,22 +1,10 @@
-/** Helps tests to bring taught desks, lines and ticks about. */
+/** Helps tests to bring lines and ticks about. */
 final class Lines {
     static final int[] ALPHABET = {
         111222, 112122, 112212, 112221, 121122, 121212, 121221, 122112, 122121, 122211, 333111, 313131
     };
 
     private Lines() {
-    }
-
-    static ChequeDesk taughtDesk() {
-        ChequeDesk desk = new ChequeDesk();
-        teachAll(desk);
-        return desk;
-    }
-
-    static void teachAll(ChequeDesk desk) {
-        for (int sign = 0; sign < 12; sign++) {
-            desk.teach(sign, ALPHABET[sign]);
-        }
     }
 
     static int width(int[] alphabet, int sign, int i) {
@@ -59,8 +47,21 @@ final class Lines {
         }
     }
 
-    static int readLine(ChequeDesk desk, String bank, String account, String number) {
-        feed(desk, ticksOf(line(bank, account, number), 8));
-        return desk.read();
+    /** The alphabet with a 0 of six widths of 1, and a 1 of six widths of 2. */
+    static int[] flatZero() {
+        int[] widths = ALPHABET.clone();
+        widths[0] = 111111;
+        widths[1] = 222222;
+        return widths;
+    }
+
+    /** A line with such a 0 at each of its digits, at SPEED 8. */
+    static int[] flatZeros() {
+        int[] signs = signs("A0000B000000B0000A");
+        int[] ticks = ticksOf(signs, 8);
+        for (int i = 0; i < ticks.length; i++) {
+            ticks[i] = signs[i / 6] == 0 ? 8 : ticks[i];
+        }
+        return ticks;
     }
 }
