@@ -107,7 +107,7 @@ final class ReadingTerms {
         run.flat(6, 4).due(6, "read").dueSigns(0, 0).dueSpeeds(5, 4).due(0, "about", 2);
         run.flat(8).ticks(6, 6, 6, 8, 8, 8).due(6, "read").dueSpeeds(8, 7);
         run.flat(9).ticks(6, 6, 6, 8, 8, 8).due(6, "read").dueSpeeds(9, 8);
-        run.flat(4, 12, 4).due(6 * 7, "read").dueSpeeds(4, 5, 4);
+        run.flat(4, 12, 4).due(6 * 7, "read").dueSigns(0, 0, 0).dueSpeeds(4, 5, 4);
         run.flat(4, 4, 12, 12).due(6 * 12, "read").dueSpeeds(4, 5, 6, 7);
     }
 
