@@ -1,10 +1,13 @@
 import java.io.IOException;
+import java.lang.reflect.Field;
+import java.lang.reflect.Method;
+import java.lang.reflect.Modifier;
 import java.nio.file.Files;
 import java.nio.file.Path;
 import java.util.regex.Matcher;
 import java.util.regex.Pattern;
 
-/** What can be told of ../shared/LANGUAGE.md from the text of the source alone. */
+/** What can be told of ../shared/LANGUAGE.md from the text of the source, and from what its classes hold. */
 public final class LanguageTest {
     private static final String[] RULED_OUT = {
         "\\bcatch\\b", "\\btry\\b", "\\bfinally\\b", "\\bsynchronized\\b", "\\bassert\\b", "^package\\b",
@@ -25,6 +28,11 @@ public final class LanguageTest {
         checks.same("classes, twelve at most", 1, found("\\b(class|record|enum|interface) [A-Z]", code) <= 12 ? 1 : 0);
         checks.same("an object is made outside of constructors and fields", 0, objectsMadeInCalls(code));
         methodLengths(checks, code);
+        libraryCalls(checks, code);
+        sizes(checks, ChequeDesk.class);
+        for (Class<?> inside : ChequeDesk.class.getDeclaredClasses()) {
+            sizes(checks, inside);
+        }
         checks.close();
     }
 
@@ -57,5 +65,30 @@ public final class LanguageTest {
             }
         }
         checks.same("each method ends", -1, start);
+    }
+
+    /** Every call by a class's name is one of these. */
+    private static void libraryCalls(Checks checks, String code) {
+        Matcher call = Pattern.compile("\\b([A-Z]\\w*\\.\\w+)\\(").matcher(code);
+        while (call.find()) {
+            checks.same("calls " + call.group(1), 1,
+                call.group(1).matches("Math\\.(abs|min|max)|Alphabet\\.areWidths") ? 1 : 0);
+        }
+    }
+
+    /** Rule 11's limits, and rule 3's types as far as this class needs them. */
+    private static void sizes(Checks checks, Class<?> owner) {
+        int fields = 0;
+        for (Field field : owner.getDeclaredFields()) {
+            Class<?> type = field.getType();
+            fields += Modifier.isStatic(field.getModifiers()) ? 0 : 1;
+            checks.same(owner + "'s " + field.getName() + " has a plain type", 1,
+                type == int.class || type == boolean.class || type == int[].class
+                    || type.getEnclosingClass() == ChequeDesk.class ? 1 : 0);
+        }
+        checks.same(owner + " has twenty fields at most", 1, fields <= 20 ? 1 : 0);
+        for (Method method : owner.getDeclaredMethods()) {
+            checks.same(method + " has seven parameters at most", 1, method.getParameterCount() <= 7 ? 1 : 0);
+        }
     }
 }
